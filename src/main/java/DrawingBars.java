@@ -838,24 +838,30 @@ public final class DrawingBars {
         }
 
         private void readClaim(int open) {
+            int nots = 0;
             int next = look();
             int place = at;
-            if (skipWord("not")) {
-                if (isOpenable(open, place)) {
-                    readClaim(open + 1);
-                    plan.addCode(Stops.NOT);
+            while (nots <= MOST_OPEN && skipWord("not")) {
+                nots += isOpenable(open + nots, place) ? 1 : 0;
+                next = look();
+                place = at;
+            }
+            int inner = open + nots;
+            if (next != '[') {
+                readSum(inner);
+                int comparison = skipSign('<') ? Stops.LESS : skipSign('>') ? Stops.MORE : Stops.SAME;
+                if (comparison == Stops.SAME) {
+                    needSign('=');
                 }
-            } else if (next == '[') {
-                if (isOpenable(open, place)) {
-                    at++;
-                    readChoice(open + 1);
-                    needSign(']');
-                }
-            } else {
-                readSum(open);
-                int comparison = readComparison();
-                readSum(open);
+                readSum(inner);
                 plan.addCode(comparison);
+            } else if (isOpenable(inner, place)) {
+                at++;
+                readChoice(inner + 1);
+                needSign(']');
+            }
+            for (; nots > 0; nots--) {
+                plan.addCode(Stops.NOT);
             }
         }
 
@@ -866,42 +872,42 @@ public final class DrawingBars {
             return faultKind == 0;
         }
 
-        private int readComparison() {
-            if (skipSign('<')) {
-                return Stops.LESS;
-            }
-            if (skipSign('>')) {
-                return Stops.MORE;
-            }
-            needSign('=');
-            return Stops.SAME;
-        }
-
+        /** A parenthesis only turns signs, so each number joins the whole sum by a sign of its own. */
         private void readSum(int open) {
-            int joining = Stops.PLUS;
+            int inside = 0;
+            int turnedInside = 0;
+            boolean minus = false;
             for (int i = 0; i <= length && faultKind == 0; i++) {
+                while (inside <= MOST_OPEN && look() == '(' && isOpenable(open + inside, at)) {
+                    at++;
+                    inside++;
+                    turnedInside = minus ? turnedInside | 1 << inside : turnedInside & ~(1 << inside);
+                }
                 boolean isX = skipWord("x");
                 if (isX || skipWord("y")) {
                     int joint = readNumber(0, MOST_JOINTS - 1);
                     named |= 1 << joint;
                     plan.addCode((isX ? Stops.X_OF : Stops.Y_OF) + joint);
-                } else if (look() != '(') {
+                } else {
                     plan.addCode(Stops.NUMBER + readNumber(0, GREATEST_NUMBER));
-                } else if (isOpenable(open, at)) {
-                    at++;
-                    readSum(open + 1);
-                    needSign(')');
                 }
                 if (i > 0) {
-                    plan.addCode(joining);
+                    plan.addCode(minus ? Stops.LESS_BY : Stops.PLUS);
                 }
+                while (inside > 0 && skipSign(')')) {
+                    inside--;
+                }
+                boolean turned = (turnedInside >> inside & 1) == 1;
                 if (skipSign('+')) {
-                    joining = Stops.PLUS;
+                    minus = turned;
                 } else if (skipSign('-')) {
-                    joining = Stops.LESS_BY;
+                    minus = !turned;
                 } else {
-                    return;
+                    break;
                 }
+            }
+            if (inside > 0) {
+                needSign(')');
             }
         }
 
@@ -1395,7 +1401,7 @@ public final class DrawingBars {
         private void find() {
             layerCount = 0;
             for (int most = 1; most <= count && layerCount == 0; most++) {
-                layerCount = puts(0, 0, most) ? most : 0;
+                layerCount = paints(this, 0, 0, most) ? most : 0;
             }
         }
 
@@ -1412,14 +1418,14 @@ public final class DrawingBars {
         }
 
         /** Of ways that only name the layers otherwise the first one opens them in their order. */
-        private boolean puts(int bar, int used, int most) {
-            if (bar >= count) {
+        private static boolean paints(Layers way, int bar, int used, int most) {
+            if (bar >= way.count) {
                 return true;
             }
             for (int next = 1; next <= most && next <= used + 1; next++) {
-                if (isFree(bar, next)) {
-                    layer[bar] = next;
-                    if (puts(bar + 1, Math.max(used, next), most)) {
+                if (way.isFree(bar, next)) {
+                    way.layer[bar] = next;
+                    if (paints(way, bar + 1, Math.max(used, next), most)) {
                         return true;
                     }
                 }
