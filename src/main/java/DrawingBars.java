@@ -231,13 +231,14 @@ public final class DrawingBars {
         if (board == null) {
             return 0;
         }
+        Layers found = board.foundLayers();
         switch (what) {
             case 0:
-                return board.layers.fewest();
+                return found.fewest();
             case 1:
-                return board.layers.asDigits();
+                return found.asDigits();
             default:
-                return board.layers.clique();
+                return found.clique();
         }
     }
 
@@ -606,7 +607,7 @@ public final class DrawingBars {
             }
         }
 
-        /** A letter for each number behind a word; what each letter allows stands in Reader.readTold. */
+        /** A letter for each number behind a word: j a joint, o one unlike the first, the rest as mostOf bounds it. */
         private static String numbersOf(int kind) {
             switch (kind) {
                 case PIN:
@@ -762,41 +763,36 @@ public final class DrawingBars {
         }
 
         private int readTold(int letter, int firstTold) {
+            int number = readNumber(leastOf(letter), mostOf(letter));
+            boolean isRadius = number == 5 || number == 25 || number == 65;
+            if (letter == 'o' && number == firstTold || letter == 'r' && !isRadius) {
+                fail(WRONG_NUMBER, numberPlace);
+            }
+            named |= letter == 'j' || letter == 'o' ? 1 << number : 0;
+            return number;
+        }
+
+        private static int leastOf(int letter) {
+            return letter == 'm' || letter == 'l' ? 1 : 0;
+        }
+
+        private static int mostOf(int letter) {
             switch (letter) {
-                case 'j':
-                    return readName(NONE);
-                case 'o':
-                    return readName(firstTold);
                 case 'c':
-                    return readNumber(0, 199);
+                    return 199;
                 case 'r':
-                    return readRadius();
+                    return 65;
                 case 'm':
-                    return readNumber(1, 99);
+                    return 99;
                 case 'f':
-                    return readNumber(0, 1);
+                    return 1;
                 case 'q':
-                    return readNumber(0, 16);
+                    return 16;
+                case 'l':
+                    return 999;
                 default:
-                    return readNumber(1, 999);
+                    return MOST_JOINTS - 1;
             }
-        }
-
-        private int readName(int butNot) {
-            int joint = readNumber(0, MOST_JOINTS - 1);
-            if (joint == butNot) {
-                fail(WRONG_NUMBER, numberPlace);
-            }
-            named |= 1 << joint;
-            return joint;
-        }
-
-        private int readRadius() {
-            int radius = readNumber(5, 65);
-            if (radius != 5 && radius != 25 && radius != 65) {
-                fail(WRONG_NUMBER, numberPlace);
-            }
-            return radius;
         }
 
         /** Behind a fault nothing more is read, and the least number stands in. */
@@ -918,9 +914,10 @@ public final class DrawingBars {
         }
 
         private void needSign(int sign) {
-            if (!skipSign(sign)) {
+            if (look() != sign) {
                 fail(OUT_OF_PLACE, at);
             }
+            at += faultKind == 0 ? 1 : 0;
         }
 
         /** A longer word that begins like this one is another word. */
@@ -1469,10 +1466,10 @@ public final class DrawingBars {
         private final int stepCount;
         private final Spots spots;
         private final Stops stops;
-        private final Layers layers;
         private final Curve curve;
         private final int[] order;
         private final int[] locks;
+        private Layers layers;
         private int orderCount;
         private int leftOver;
 
@@ -1481,7 +1478,6 @@ public final class DrawingBars {
             stepCount = told.steps();
             spots = new Spots(told, stepCount);
             stops = new Stops(told, spots);
-            layers = new Layers(told.barCount);
             order = new int[told.jointCount];
             locks = new int[stepCount];
             curve = new Curve(spots, locks, told.pencil);
@@ -1495,6 +1491,14 @@ public final class DrawingBars {
                 }
                 locks[step] = findLock(step);
             }
+        }
+
+        /** They are worked out when they are first asked for, since many boards are never asked. */
+        private Layers foundLayers() {
+            if (layers != null) {
+                return layers;
+            }
+            layers = new Layers(plan.barCount);
             for (int bar = 0; bar < plan.barCount; bar++) {
                 for (int other = 0; other < bar; other++) {
                     if (firstCrossing(bar, other) != NONE) {
@@ -1503,6 +1507,7 @@ public final class DrawingBars {
                 }
             }
             layers.find();
+            return layers;
         }
 
         private void findOrder() {

@@ -15,6 +15,42 @@ final class Boards {
         loose = random.nextInt(6) == 0;
     }
 
+    /** Pins and far ends of bars only, so that many bars cross. */
+    static String dense(Random random) {
+        StringBuilder text = new StringBuilder("pin 30 30;wheel 0 5;");
+        int pins = 6 + random.nextInt(8);
+        int reach = 4 + random.nextInt(60);
+        for (int i = 0; i < pins; i++) {
+            text.append("pin ").append(random.nextInt(reach)).append(" ").append(random.nextInt(reach)).append(";");
+        }
+        for (int i = 0; i < 8; i++) {
+            int a = random.nextInt(pins + 2);
+            int b = (a + 1 + random.nextInt(pins + 1)) % (pins + 2);
+            text.append("bar ").append(a).append(" ").append(b).append(" 5;");
+        }
+        return text.append("stop x 1<").append(20 + random.nextInt(16)).append(";pencil 1;").toString();
+    }
+
+    /** Joints thrown far out, up to the edge and beyond, with arms and slots round them. */
+    static String far(Random random) {
+        StringBuilder text = new StringBuilder("pin 0 0;pin " + (120 + random.nextInt(8)) + " " + (120 + random.nextInt(8))
+                + ";along 0 1 16;along 0 2 16;pin " + random.nextInt(3) + " " + random.nextInt(3) + ";wheel 4 5;");
+        for (int j = 6; j < 16; j++) {
+            int a = random.nextInt(j);
+            int b = (a + 1 + random.nextInt(j - 1)) % j;
+            switch (random.nextInt(8)) {
+                case 0 -> text.append("slot ").append(a).append(" ").append(1 + random.nextInt(99)).append(" ")
+                        .append(random.nextInt(2)).append(" ").append(random.nextInt(50)).append(" 1;");
+                case 1, 2, 3 -> text.append("arm ").append(a).append(" ").append(1 + random.nextInt(9)).append(" ").append(b)
+                        .append(" ").append(1 + random.nextInt(9)).append(" ").append(random.nextInt(2)).append(";");
+                case 4 -> text.append("along ").append(a).append(" ").append(b).append(" ").append(random.nextInt(17)).append(";");
+                default -> text.append("copy ").append(random.nextBoolean() ? 3 : a).append(" ").append(b).append(" ")
+                        .append(random.nextInt(j)).append(";");
+            }
+        }
+        return text.append("bar 3 15 9;bar 7 8 9;bar 9 10 9;pencil 15;").toString();
+    }
+
     String text() {
         int wheelAt = random.nextInt(4) == 0 ? -1 : 1;
         int size = random.nextInt(3);

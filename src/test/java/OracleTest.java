@@ -19,7 +19,7 @@ public final class OracleTest {
     public static void main(String[] args) {
         int rounds = args.length > 1 ? Integer.parseInt(args[1]) : 1500;
         for (int i = 0; i < rounds; i++) {
-            String text = new Boards(random).text();
+            String text = i % 5 == 3 ? Boards.dense(random) : i % 5 == 4 ? Boards.far(random) : new Boards(random).text();
             DrawingBars bars = new DrawingBars();
             Oracle oracle = new Oracle(text);
             checks.same(text, Checks.read(bars, text), oracle.faultKind == 0 ? 0 : oracle.faultKind - 10);
