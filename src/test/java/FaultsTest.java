@@ -95,6 +95,9 @@ public final class FaultsTest {
     private static void words() {
         fault("pi", 1, 0);
         fault("pinn 0 0;", 1, 0);
+        fault("pinz 0 0;", 1, 0);
+        fault("pina 0 0;", 1, 0);
+        fault("pin 0 0;stop x 0=1 andz 1=1;", 1, 19);
         fault("Pin 0 0;", 1, 0);
         fault("  pins 0 0;", 1, 2);
         fault("pin 0 0;rod 0 0;", 1, 8);

@@ -473,6 +473,9 @@ public final class PromisesTest {
         each("right half jump", Checks.made(WHEEL + "stop x 1<10;")::jump, 4, 0);
         each("a still pencil", Checks.made("pin 3 4;wheel 0 25;pencil 0;")::curve, 1, 1, 1, 1, 0);
         each("a still pencil jump", Checks.made("pin 3 4;wheel 0 25;pencil 0;stop x 1=28;")::jump, 0, 1);
+        String corner = "pin 0 0;pin 125 125;along 0 1 16;along 0 2 16;copy 0 0 3;";
+        each("at the upper edge", Checks.made(corner + "pencil 3;")::curve, 1, 1, 1, 1, 0);
+        each("at the lower edge", Checks.made(corner + "pencil 4;")::curve, 1, 1, 1, 1, 0);
         DrawingBars wheel = Checks.made(WHEEL);
         c.badArgument("curve(5)", () -> wheel.curve(5));
         c.badArgument("curve(-1)", () -> wheel.curve(-1));
