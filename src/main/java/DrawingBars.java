@@ -41,7 +41,6 @@ public final class DrawingBars {
     private static final int BEYOND_EDGE = 4;
     private static final int LEFT_OVER = 5;
 
-    private final int[] tape;
     private final Reader reader;
     private final Board[] boards;
     private final Row row;
@@ -54,8 +53,7 @@ public final class DrawingBars {
     private int imageCount;
 
     public DrawingBars() {
-        tape = new int[TAPE_BYTES];
-        reader = new Reader(tape);
+        reader = new Reader();
         boards = new Board[MOST_BOARDS];
         row = new Row();
         images = new Image[MOST_IMAGES];
@@ -91,7 +89,7 @@ public final class DrawingBars {
         if (boardCount >= MOST_BOARDS) {
             return NONE;
         }
-        Board made = new Board(reader.handOver());
+        Board made = Board.of(reader.handOver());
         made.arrange();
         boards[boardCount] = made;
         boardCount++;
@@ -404,10 +402,8 @@ public final class DrawingBars {
 
     private void feedNumber(int number) {
         for (int shift = 24; shift >= 0; shift -= 8) {
-            if (tapeBytes < tape.length) {
-                tape[tapeBytes] = number >>> shift & 255;
-                tapeBytes++;
-            }
+            reader.put(tapeBytes, number >>> shift & 255);
+            tapeBytes++;
         }
     }
 
@@ -635,8 +631,8 @@ public final class DrawingBars {
         private static final int END = -1;
         private static final int NUMBER_TOO_GREAT = 100000;
 
-        private final int[] text;
-        private Plan plan;
+        private final int[] text = new int[TAPE_BYTES];
+        private Plan plan = new Plan();
         private int length;
         private int at;
         private int numberPlace;
@@ -645,9 +641,10 @@ public final class DrawingBars {
         private int named;
         private int clauses;
 
-        private Reader(int[] tape) {
-            text = tape;
-            plan = new Plan();
+        private void put(int place, int sign) {
+            if (place >= 0 && place < text.length) {
+                text[place] = sign;
+            }
         }
 
         /** Answers the kind of the fault, 0 without. */
@@ -1473,14 +1470,20 @@ public final class DrawingBars {
         private int orderCount;
         private int leftOver;
 
-        private Board(Plan told) {
-            plan = told;
-            stepCount = told.steps();
-            spots = new Spots(told, stepCount);
-            stops = new Stops(told, spots);
-            order = new int[told.jointCount];
-            locks = new int[stepCount];
-            curve = new Curve(spots, locks, told.pencil);
+        private Board(Plan plan, Spots spots, Stops stops, Curve curve, int[] locks) {
+            this.plan = plan;
+            this.spots = spots;
+            this.stops = stops;
+            this.curve = curve;
+            this.locks = locks;
+            stepCount = locks.length;
+            order = new int[plan.jointCount];
+        }
+
+        private static Board of(Plan told) {
+            int[] locks = new int[told.steps()];
+            Spots spots = new Spots(told, locks.length);
+            return new Board(told, spots, new Stops(told, spots), new Curve(spots, locks, told.pencil), locks);
         }
 
         private void arrange() {
