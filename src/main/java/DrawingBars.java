@@ -81,13 +81,15 @@ public final class DrawingBars {
             throw new IllegalArgumentException();
         }
         tapeBytes = 0;
-        int kind = reader.read(n);
-        faultPlace = reader.faultPlace();
-        if (kind != 0) {
-            return kind - 10;
-        }
+        faultPlace = NONE;
+        // Of a text that finds no room no fault is told, so it is not read at all.
         if (boardCount >= MOST_BOARDS) {
             return NONE;
+        }
+        int kind = reader.read(n);
+        if (kind != 0) {
+            faultPlace = reader.faultPlace();
+            return kind - 10;
         }
         Board made = Board.of(reader.handOver());
         made.arrange();
@@ -835,7 +837,10 @@ public final class DrawingBars {
             int next = look();
             int place = at;
             while (nots <= MOST_OPEN && skipWord("not")) {
-                nots += isOpenable(open + nots, place) ? 1 : 0;
+                if (!isOpenable(open + nots, place)) {
+                    break;
+                }
+                nots++;
                 next = look();
                 place = at;
             }

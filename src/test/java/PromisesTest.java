@@ -106,8 +106,38 @@ public final class PromisesTest {
         c.same("boards", bars.told(4), 4);
         c.same("taken", bars.told(5), 3);
         c.same("step", bars.now(), 2);
-        c.same("a fifth with a fault", Checks.read(bars, "pin 0 0"), -9);
-        c.same("its place", bars.fault(), 7);
+        fifthBoard(bars);
+    }
+
+    /** Where there are four boards no text is read, be it faulty or not: no fault is told of it. */
+    private static void fifthBoard(DrawingBars bars) {
+        for (String text : new String[] {"", "pin 0 0", "pin 0 900;", "wheel 0 5;wheel 0 5;", "pin 0 0;bar 0 1 5;", WHEEL}) {
+            c.same("a fifth '" + text + "'", Checks.read(bars, text), -1);
+            c.same("no place of a fault in '" + text + "'", bars.fault(), NONE);
+            c.same("the tape behind '" + text + "'", bars.count(2), 0);
+        }
+        bars.feed(0, 0, 0, 0, 0);
+        c.badArgument("board(21) with four boards", () -> bars.board(21));
+        c.badArgument("board(-1) with four boards", () -> bars.board(-1));
+        c.same("the tape stays", bars.count(2), 20);
+        c.same("board(0) with four boards", bars.board(0), -1);
+        c.same("all of it goes", bars.count(2), 0);
+        c.same("boards", bars.told(4), 4);
+        c.same("taken", bars.told(5), 3);
+        c.same("step", bars.now(), 2);
+        DrawingBars last = Checks.made(WHEEL, WHEEL, WHEEL);
+        c.same("a fault ahead of the fourth", Checks.read(last, "pin 0 0"), -9);
+        c.same("its place", last.fault(), 7);
+        c.same("the fourth", Checks.read(last, WHEEL), 3);
+        c.same("fault() of the fourth", last.fault(), NONE);
+        DrawingBars image = Checks.made(WHEEL);
+        image.image();
+        for (int i = 1; i < 4; i++) {
+            c.same("board " + i, Checks.read(image, WHEEL), i);
+        }
+        image.restore();
+        c.same("boards stay behind an image", Checks.read(image, "pin 0 0"), -1);
+        c.same("and what is taken", image.told(5), 0);
     }
 
     private static void takeAndTold() {
