@@ -56,6 +56,22 @@ final class Checks {
         return wrong == 0;
     }
 
+    /** A new object reads the text as its board 0. */
+    void fine(String text) {
+        DrawingBars bars = new DrawingBars();
+        same("'" + text + "' board", read(bars, text), 0);
+        same("'" + text + "' fault", bars.fault(), -1);
+    }
+
+    /** A new object finds this fault in the text at this place, and makes no board. */
+    void fault(String text, int kind, int place) {
+        DrawingBars bars = new DrawingBars();
+        same("'" + text + "' board", read(bars, text), kind - 10);
+        same("'" + text + "' fault", bars.fault(), place);
+        same("'" + text + "' boards", bars.told(4), 0);
+        same("'" + text + "' taken", bars.told(5), -1);
+    }
+
     void end() {
         System.out.println(asked + " asked, " + wrong + " wrong");
         if (wrong > 0 || asked == 0) {
@@ -75,14 +91,19 @@ final class Checks {
         return text.getBytes(java.nio.charset.StandardCharsets.ISO_8859_1);
     }
 
-    /** Feeds a text as it stands and reads it as a board. */
-    static int read(DrawingBars bars, String text) {
+    /** Feeds a text, filled up by bytes 0 to whole twenties. */
+    static void feed(DrawingBars bars, String text) {
         byte[] bytes = bytes(text);
         for (int i = 0; i < bytes.length; i += 20) {
             bars.feed(number(bytes, i), number(bytes, i + 4), number(bytes, i + 8),
                     number(bytes, i + 12), number(bytes, i + 16));
         }
-        return bars.board(bytes.length);
+    }
+
+    /** Feeds a text and reads it as a board. */
+    static int read(DrawingBars bars, String text) {
+        feed(bars, text);
+        return bars.board(text.length());
     }
 
     static DrawingBars made(String... texts) {

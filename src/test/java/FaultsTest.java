@@ -14,17 +14,11 @@ public final class FaultsTest {
     }
 
     private static void fault(String text, int kind, int place) {
-        DrawingBars bars = new DrawingBars();
-        checks.same("'" + text + "' board", Checks.read(bars, text), kind - 10);
-        checks.same("'" + text + "' fault", bars.fault(), place);
-        checks.same("'" + text + "' boards", bars.told(4), 0);
-        checks.same("'" + text + "' taken", bars.told(5), -1);
+        checks.fault(text, kind, place);
     }
 
     private static void fine(String text) {
-        DrawingBars bars = new DrawingBars();
-        checks.same("'" + text + "' board", Checks.read(bars, text), 0);
-        checks.same("'" + text + "' fault", bars.fault(), -1);
+        checks.fine(text);
     }
 
     /** The number at the end of what stands ahead is wrong if behind, right if within. */

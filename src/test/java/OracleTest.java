@@ -20,11 +20,10 @@ public final class OracleTest {
         int rounds = args.length > 1 ? Integer.parseInt(args[1]) : 1500;
         for (int i = 0; i < rounds; i++) {
             String text = i % 5 == 3 ? Boards.dense(random) : i % 5 == 4 ? Boards.far(random) : new Boards(random).text();
-            DrawingBars bars = new DrawingBars();
             Oracle oracle = new Oracle(text);
-            checks.same(text, Checks.read(bars, text), oracle.faultKind == 0 ? 0 : oracle.faultKind - 10);
+            checks.same(text, Checks.read(new DrawingBars(), text), oracle.faultKind == 0 ? 0 : oracle.faultKind - 10);
             if (oracle.faultKind == 0) {
-                compare(text, bars, oracle);
+                compare(text, oracle);
             }
         }
         for (int i = 0; i < rounds * 20; i++) {
@@ -74,7 +73,18 @@ public final class OracleTest {
         return spoilt.toString();
     }
 
-    private static void compare(String text, DrawingBars bars, Oracle oracle) {
+    /** Each part asks an object of its own: behind 512 calls what it answers is free. */
+    private static void compare(String text, Oracle oracle) {
+        compareTold(text, Checks.made(text), oracle);
+        for (int s = 0; s < oracle.steps; s++) {
+            compareStep(text + " at " + s + ": ", Checks.made(text), oracle, s);
+        }
+        compareWays(text, Checks.made(text), oracle);
+        compareBars(text, Checks.made(text), oracle);
+        comparePencil(text, Checks.made(text), oracle);
+    }
+
+    private static void compareTold(String text, DrawingBars bars, Oracle oracle) {
         int joints = oracle.joints.size();
         checks.same(text + " told(0)", bars.told(0), joints);
         checks.same(text + " told(1)", bars.told(1), oracle.bars.size());
@@ -92,12 +102,6 @@ public final class OracleTest {
                         what < numbers.length ? numbers[what] : -1);
             }
         }
-        for (int s = 0; s < oracle.steps; s++) {
-            compareStep(text + " at " + s + ": ", bars, oracle, s);
-        }
-        compareWays(text, bars, oracle);
-        compareBars(text, bars, oracle);
-        comparePencil(text, bars, oracle);
     }
 
     private static void compareStep(String text, DrawingBars bars, Oracle oracle, int s) {
