@@ -18,6 +18,7 @@ public final class BarEdgesTest {
         farTouch();
         jointInCommon();
         allJointsPlaced();
+        endsThatMove();
         asDrawn();
         crossersAtGoodSteps();
         oneBarTwice();
@@ -137,20 +138,39 @@ public final class BarEdgesTest {
         c.same("two and a quarter", holds(quarters, 0, 5, 2), 0);
     }
 
-    /** Joints of one root: the root goes out, or stands in both parts. */
+    /** Joints of one root: the root goes out, or stands in both parts, along as well as across. */
     private static void rootsApart() {
-        String text = pins(0, 0, 10, 0) + "arm 0 10 1 10 0;copy 2 1 0;copy 2 2 0;along 0 2 1;along 2 0 3;along 0 2 5;copy 0 0 2;";
-        int[][] due = {{2, 3, 10}, {3, 4, 10}, {0, 4, 20}, {2, 4, 10}, {8, 2, 20}, {8, 4, 30}};
-        for (int[] bar : due) {
-            for (int more = -1; more <= 1; more++) {
-                c.same(bar[0] + " to " + bar[1] + " by " + (bar[2] + more), holds(text, bar[0], bar[1], bar[2] + more), more == 0 ? 1 : 0);
+        for (int[] second : new int[][] {{10, 0}, {8, 6}, {6, 8}, {0, 10}}) {
+            for (int side = 0; side < 2; side++) {
+                rootsApart(pins(0, 0, second[0], second[1]) + "arm 0 10 1 10 " + side
+                        + ";copy 2 1 0;copy 2 2 0;along 0 2 1;along 2 0 3;along 0 2 5;copy 0 0 2;");
             }
         }
-        c.same("two quarters of ten", holds(text, 5, 6, 5), 0);
-        c.same("a quarter each, at one place", holds(text, 5, 6, 1), 0);
-        c.same("from 5 to 1 and a quarter", holds(text, 5, 7, 10), 1);
-        c.same("and 9", holds(text, 5, 7, 9), 0);
-        c.same("from whole to 2 and a half", holds(text, 0, 5, 2), 0);
+        rationalPartsThatFit();
+    }
+
+    private static void rootsApart(String text) {
+        int[][] due = {{0, 2, 10}, {1, 2, 10}, {2, 3, 10}, {3, 4, 10}, {0, 4, 20}, {2, 4, 10}, {8, 2, 20}, {8, 4, 30}, {5, 7, 10}, {8, 0, 10},
+            {8, 3, 0}, {1, 3, 10}, {5, 6, 0}, {0, 5, 0}, {7, 0, 0}, {5, 2, 0}};
+        for (int[] bar : due) {
+            for (int length = 1; length <= 31; length++) {
+                c.same(text + bar[0] + " to " + bar[1] + " by " + length, holds(text, bar[0], bar[1], length), length == bar[2] ? 1 : 0);
+                c.same(text + bar[1] + " to " + bar[0] + " by " + length, holds(text, bar[1], bar[0], length), length == bar[2] ? 1 : 0);
+            }
+        }
+    }
+
+    /** The part without a root is just L's square, but the root does not go out: it does not hold. */
+    private static void rationalPartsThatFit() {
+        String level = pins(0, 0, 10, 0) + "arm 0 10 1 10 0;";
+        c.same("100 less 50 roots of 3", holds(level + pins(5, 5), 2, 3, 10), 0);
+        c.same("196 less 110 roots of 3", holds(level + pins(5, 11), 2, 3, 14), 0);
+        c.same("100 and 50 roots of 3", holds(pins(0, 0, 10, 0) + "arm 1 10 0 10 0;" + pins(5, 5), 2, 3, 10), 0);
+        String tilted = pins(0, 0, 8, 6) + "arm 0 10 1 10 0;";
+        c.same("100 and 48 roots of 3", holds(tilted + pins(8, 0), 2, 3, 10), 0);
+        c.same("where the root goes out", holds(tilted + pins(8, 6), 2, 3, 10), 1);
+        String steep = pins(0, 0, 0, 10) + "arm 0 10 1 10 1;";
+        c.same("100 less 50 roots of 3, along", holds(steep + pins(5, 5), 2, 3, 10), 0);
     }
 
     /** None: both are not whole, of unlike roots, be they at one place; one that is whole has none. */
@@ -255,7 +275,8 @@ public final class BarEdgesTest {
 
     private static void allJointsPlaced() {
         String lost = pins(0, 0, 9, 9, 0, 9, 9, 0) + "arm 0 1 1 1 0;";
-        for (String two : new String[] {"bar 4 1 1;bar 2 3 1;", "bar 0 4 1;bar 2 3 1;", "bar 0 1 1;bar 4 3 1;", "bar 0 1 1;bar 2 4 1;"}) {
+        for (String two : new String[] {"bar 4 1 1;bar 2 3 1;", "bar 1 4 1;bar 2 3 1;", "bar 2 3 1;bar 4 1 1;", "bar 2 3 1;bar 1 4 1;",
+            "bar 0 4 1;bar 2 3 1;", "bar 0 1 1;bar 4 3 1;", "bar 0 1 1;bar 2 4 1;"}) {
             c.same(two, Checks.made(lost + two).cross(0, 0, 1), false);
         }
         c.same("a joint of neither", Checks.made(lost + "bar 0 1 1;bar 2 3 1;").cross(0, 0, 1), true);
@@ -270,6 +291,55 @@ public final class BarEdgesTest {
         c.same("two and a quarter at 2", Checks.made(text + pins(2, 0, 2, 3) + "bar 0 5 1;bar 7 8 1;").cross(0, 0, 1), true);
         c.same("and not at 3", Checks.made(text + "bar 0 5 1;bar 3 1 1;").cross(0, 0, 1), false);
         c.same("below 0 at -1", Checks.made(text + "bar 6 2 1;bar 0 3 1;").cross(0, 0, 1), false);
+    }
+
+    /** On which side of the way from one to two a third one lies. */
+    private static int side(int[] one, int[] two, int[] third) {
+        return Integer.signum((two[0] - one[0]) * (third[1] - one[1]) - (two[1] - one[1]) * (third[0] - one[0]));
+    }
+
+    private static boolean between(int[] one, int[] two, int[] third) {
+        return side(one, two, third) == 0 && Math.min(one[0], two[0]) <= third[0] && third[0] <= Math.max(one[0], two[0])
+                && Math.min(one[1], two[1]) <= third[1] && third[1] <= Math.max(one[1], two[1]);
+    }
+
+    private static boolean meet(int[] a, int[] b, int[] d, int[] e) {
+        boolean through = side(a, b, d) * side(a, b, e) < 0 && side(d, e, a) * side(d, e, b) < 0;
+        return through || between(a, b, d) || between(a, b, e) || between(d, e, a) || between(d, e, b);
+    }
+
+    /** At each step the ends are where they are then, each of the four; and a joint that is lost then is not placed then. */
+    private static void endsThatMove() {
+        String joints = "pin 20 20;wheel 0 25;copy 0 0 1;slot 1 24 0 20 1;slot 2 24 1 20 0;pin 30 30;pin 40 20;pin 20 5;arm 1 9 5 20 0;";
+        int[][] ends = {{1, 2}, {3, 4}, {5, 6}, {7, 5}, {1, 7}, {6, 2}, {8, 7}, {3, 5}};
+        StringBuilder text = new StringBuilder(joints);
+        for (int[] bar : ends) {
+            text.append("bar ").append(bar[0]).append(' ').append(bar[1]).append(" 1;");
+        }
+        int crossed = 0;
+        int lost = 0;
+        for (int s = 0; s < 20; s++) {
+            DrawingBars bars = Checks.made(text.toString());
+            int[][] at = new int[9][];
+            for (int j = 0; j < 9; j++) {
+                at[j] = bars.why(s, j) == 0 ? new int[] {bars.place(s, j, 0), bars.place(s, j, 1)} : null;
+                lost += at[j] == null ? 1 : 0;
+            }
+            for (int bar = 0; bar < 8; bar++) {
+                for (int other = 0; other < 8; other++) {
+                    int[] p = ends[bar];
+                    int[] q = ends[other];
+                    boolean common = p[0] == q[0] || p[0] == q[1] || p[1] == q[0] || p[1] == q[1];
+                    boolean placed = at[p[0]] != null && at[p[1]] != null && at[q[0]] != null && at[q[1]] != null;
+                    if (bar != other) {
+                        boolean due = !common && placed && meet(at[p[0]], at[p[1]], at[q[0]], at[q[1]]);
+                        c.same("at " + s + ", " + bar + " and " + other, bars.cross(s, bar, other), due);
+                        crossed += due ? 1 : 0;
+                    }
+                }
+            }
+        }
+        c.same("some cross, some are lost", crossed > 20 && lost > 4, true);
     }
 
     private static String wheelWith(String stop) {
@@ -347,7 +417,26 @@ public final class BarEdgesTest {
         layers("seven of eight all cross", star(7) + pins(50, 50, 60, 60) + "bar 14 15 1;", 7, 12345671, 127);
         layers("one crosses the last alone", pins(50, 50, 60, 60) + star(7).replaceAll("bar.*", "") + "bar 0 1 1;"
                 + barsOf(8).substring(barsOf(1).length()), 7, 11234567, 254);
+        oneBesideAStar();
         layers("no good step", star(8) + "stop 1=1;", 1, 11111111, 1);
+    }
+
+    /** A bar that crosses none, told at each place among those that all cross each other: it is in layer 1. */
+    private static void oneBesideAStar() {
+        for (int many = 2; many <= 7; many++) {
+            for (int place = 0; place <= many; place++) {
+                StringBuilder text = new StringBuilder();
+                int way = 0;
+                int clique = 0;
+                for (int i = 0; i <= many; i++) {
+                    int layer = i < place ? i + 1 : i == place ? 1 : i;
+                    way = way * 10 + layer;
+                    clique |= i == place ? 0 : 1 << i;
+                    text.append(i == place ? pins(50, 50, 60, 60) : pins(layer, 0, 9 - layer, 9));
+                }
+                layers("one at " + place + " beside " + many, text + barsOf(many + 1), many, way, clique);
+            }
+        }
     }
 
     /** Of the ways with the fewest layers the first, bar by bar. */

@@ -22,6 +22,7 @@ public final class PencilEdgesTest {
         curveAtTheEdges();
         jumpRound();
         likeOfFew();
+        likeButForOne();
         largerByQuarters();
         largerAtItsBounds();
         largerAtGoodStepsAlone();
@@ -334,6 +335,22 @@ public final class PencilEdgesTest {
             for (int what = 0; what < 3; what++) {
                 c.same("like " + Integer.toBinaryString(each[0]) + " " + what, bars.like(what), each[1 + what] == 1);
             }
+        }
+    }
+
+    /** One square that has no likeness is enough, be it the first step's, the last's or one between; all in one column. */
+    private static void likeButForOne() {
+        String[] extra = {"x 1=15", "x 1=14 and y 1=7", "x 1=6 and y 1=13"};
+        String column = "pin 10 10;wheel 0 5;slot 1 20 1 10 1;pencil 2;stop not [x 1=10";
+        DrawingBars two = Checks.made(column + "];");
+        c.same("two above each other", two.like(1), true);
+        c.same("turned by half", two.like(2), true);
+        for (String one : extra) {
+            DrawingBars bars = Checks.made(column + " or " + one + "];");
+            c.same("one column", bars.like(0), true);
+            c.same("three squares", bars.curve(0), 3);
+            c.same("not above for below with " + one, bars.like(1), false);
+            c.same("not turned with " + one, bars.like(2), false);
         }
     }
 

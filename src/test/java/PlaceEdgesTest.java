@@ -18,6 +18,7 @@ public final class PlaceEdgesTest {
         whyNotPlaced();
         firstOfSeveralReasons();
         unlikeOnesThatAreNotWhole();
+        firstAndLastJoint();
         circlesThatMeet();
         circlesAtOnePlace();
         slotsThatReach();
@@ -27,12 +28,17 @@ public final class PlaceEdgesTest {
         rootsAtTheEdge(true);
         armsAtTheEdge(false);
         armsAtTheEdge(true);
+        oneAtTheEdge(false);
+        oneAtTheEdge(true);
+        eachStepByItself();
         wheelAtTheEdge();
         cutDown();
         wholeByBoth();
         sideAtItsEdges();
         nearWholeNumbers();
         goodAsDrawn();
+        conditions();
+        sums();
         lockedByJoints();
         lockedByStops();
         firstLocked();
@@ -211,6 +217,30 @@ public final class PlaceEdgesTest {
         whys(ROOTS + "copy 2 0 2;copy 6 2 0;along 6 2 1;arm 6 5 1 5 0;along 2 0 4;copy 10 2 0;slot 10 3 0 1 0;", 6, 0, 0, 0, 0, 0, 0, 0);
     }
 
+    /** The first joint and the last are joints as others: not whole, not placed, or a root of what is told by them. */
+    private static void firstAndLastJoint() {
+        String[] rough = {"arm 1 10 2 10 0;pin 0 0;pin 10 0;", "along 1 2 1;pin 0 0;pin 10 0;", "slot 1 9 0 4 1;pin 0 0;pin 10 0;"};
+        for (String first : rough) {
+            int copied = first.startsWith("along") ? 2 : 0;
+            whys(first + "arm 0 5 1 5 0;arm 1 5 0 5 0;slot 0 9 0 1 0;wheel 0 5;copy 0 1 2;copy 1 0 2;copy 1 2 0;along 0 1 1;along 1 0 1;"
+                    + "copy 0 0 2;copy 0 1 0;", 3, 2, 2, 2, 2, copied, copied, copied, copied, copied, copied, copied);
+        }
+        whys("arm 1 4 2 4 0;pin 0 0;pin 10 0;arm 0 5 1 5 0;arm 1 5 0 5 0;slot 0 9 0 1 0;wheel 0 5;copy 0 1 2;copy 1 0 2;copy 1 2 0;"
+                + "along 0 1 1;along 1 0 1;", 3, 1, 1, 1, 1, 1, 1, 1, 1, 1);
+        String pins = "pin 0 0;pin 10 0;" + "pin 1 1;".repeat(12);
+        whys("copy 15 1 2;" + pins + "arm 1 4 2 4 0;", 0, 1);
+        whys("arm 15 9 1 9 0;" + pins + "arm 1 4 2 4 0;", 0, 1);
+        whys("slot 15 9 0 4 1;" + pins + "arm 1 10 2 10 0;", 0, 2);
+        whys("copy 15 1 2;" + pins + "arm 1 10 2 10 0;", 0, 0);
+        String rooted = "arm 1 10 2 10 0;pin 0 0;pin 10 0;copy 0 2 1;copy 0 0 1;along 1 0 3;bar 0 3 10;bar 0 4 10;bar 3 4 10;bar 1 4 20;";
+        DrawingBars bars = Checks.made(rooted);
+        for (int bar = 0; bar < 4; bar++) {
+            c.same("of the root of joint 0, bar " + bar, bars.holds(0, bar), 1);
+        }
+        c.same("larger by the root of joint 0", bars.larger(4, 0, 1, 8), 1);
+        c.same("three quarters of joint 0", bars.larger(5, 0, 1, 3), 1);
+    }
+
     /** Circles that do not meet; where they touch there is one place for both S. */
     private static void circlesThatMeet() {
         for (int dx = -6; dx <= 12; dx++) {
@@ -333,6 +363,56 @@ public final class PlaceEdgesTest {
         c.same("-1,998 and the root of 5", bars.place(0, 14, what), -1996);
     }
 
+    /** X just at the edge, while Y has a root, and the other way round. */
+    private static void oneAtTheEdge(boolean up) {
+        String text = farOut(up) + pin(10, 0, up) + pin(1, 0, up) + "copy 3 0 5;copy 3 0 6;copy 4 5 0;copy 4 6 0;"
+                + "arm 7 18 8 15 0;arm 7 18 8 15 1;arm 9 18 10 15 0;arm 9 18 10 15 1;";
+        whys(text, 11, 0, 0, 0, 0);
+        DrawingBars bars = Checks.made(text);
+        int what = up ? 1 : 0;
+        int[] edge = {2000, 2000, -2000, -2000};
+        for (int i = 0; i < 4; i++) {
+            c.same("just at the edge " + i, bars.side(0, 11 + i, what, edge[i]), 0);
+            c.same("drawn there " + i, bars.place(0, 11 + i, what), edge[i]);
+            int off = bars.place(0, 11 + i, 1 - what);
+            c.same("by the root of 224 off " + i, off == 14 || off == -15, true);
+            c.same("not whole " + i, bars.whole(0, 11 + i), 0);
+        }
+    }
+
+    /** At each step a joint is as it is then, not as at step 0: where, whole, placed, and how far from others. */
+    private static void eachStepByItself() {
+        int[] xs = {5, 4, 3, 0, -3, -4, -5, -4, -3, 0, 3, 4};
+        int[] ys = {0, 3, 4, 5, 4, 3, 0, -3, -4, -5, -4, -3};
+        int[] rootOf36Less = {6, 5, 4, 3, 4, 5, 6, 5, 4, 3, 4, 5};
+        String text = "pin 0 0;wheel 0 5;slot 1 6 0 0 1;slot 1 4 0 0 1;slot 1 7 0 0 1;arm 0 2 1 3 0;slot 2 9 0 0 1;copy 2 0 0;copy 3 0 0;"
+                + "bar 0 2 11;bar 0 2 1;bar 2 4 1;bar 0 3 9;bar 0 5 2;bar 5 1 3;bar 1 0 5;bar 3 1 4;";
+        DrawingBars bars = Checks.made(text);
+        for (int s = 0; s < 12; s++) {
+            boolean level = ys[s] == 0;
+            boolean top = xs[s] == 0;
+            c.same("wheel at " + s, bars.side(s, 1, 0, xs[s]), 0);
+            c.same("wheel at " + s, bars.side(s, 1, 1, ys[s]), 0);
+            c.same("slot at " + s, bars.place(s, 2, 0), xs[s] + rootOf36Less[s]);
+            c.same("slot whole at " + s, bars.whole(s, 2), level ? 1 : 0);
+            c.same("slot beside at " + s, bars.side(s, 2, 0, xs[s] + rootOf36Less[s]), level ? 0 : 1);
+            c.same("short slot at " + s, bars.why(s, 3), top ? 3 : 0);
+            c.same("short slot whole at " + s, bars.whole(s, 3), top ? NONE : Math.abs(ys[s]) == 3 ? 0 : 1);
+            c.same("short slot beside at " + s, bars.side(s, 3, 0, xs[s]), top ? VOID : Math.abs(ys[s]) == 4 ? 0 : 1);
+            c.same("touching X at " + s, bars.place(s, 5, 0), Math.floorDiv(2 * xs[s], 5));
+            c.same("touching Y at " + s, bars.place(s, 5, 1), Math.floorDiv(2 * ys[s], 5));
+            c.same("touching whole at " + s, bars.whole(s, 5), level || top ? 1 : 0);
+            c.same("told by one that is whole then, at " + s, bars.why(s, 6), level ? 0 : 2);
+            c.same("a copy at " + s, bars.place(s, 7, 0), bars.place(s, 2, 0));
+            c.same("a copy of one not placed at " + s, bars.why(s, 8), top ? 1 : 0);
+            int[] holds = {s == 0 ? 1 : 0, s == 6 ? 1 : 0, level ? 1 : NONE, top ? NONE : s == 0 ? 1 : 0, 1, 1, 1, top ? NONE : 1};
+            for (int bar = 0; bar < holds.length; bar++) {
+                c.same("bar " + bar + " at " + s, bars.holds(s, bar), holds[bar]);
+            }
+            c.same("lock at " + s, bars.lock(s), top ? 33 : level ? NONE : 62);
+        }
+    }
+
     private static void wheelAtTheEdge() {
         DrawingBars bars = Checks.made(farOut(false) + "pin 4 0;copy 3 0 5;wheel 6 5;");
         for (int s = 0; s < 12; s++) {
@@ -430,6 +510,80 @@ public final class PlaceEdgesTest {
             c.same(hold[i], Checks.made(text + hold[i] + ";").good(0), false);
             c.same(not[i], Checks.made(text + not[i] + ";").lock(0), NONE);
             c.same(not[i], Checks.made(text + not[i] + ";").good(0), true);
+        }
+    }
+
+    private static void stop(String condition, boolean holds) {
+        c.same("stop " + condition, Checks.made("pin 3 4;stop " + condition + ";").lock(0), holds ? 1000 : NONE);
+    }
+
+    /** C: D { "or" D }, D: B { "and" B }, B: "not" B or "[" C "]": each by all that its parts may be. */
+    private static void conditions() {
+        for (int values = 0; values < 8; values++) {
+            boolean p = (values & 1) != 0;
+            boolean q = (values & 2) != 0;
+            boolean r = (values & 4) != 0;
+            String a = p ? "1=1" : "1=2";
+            String b = q ? "x 0=3" : "x 0=4";
+            String d = r ? "y 0>3" : "y 0<4";
+            stop(a, p);
+            stop("not " + a, !p);
+            stop("not not " + a, p);
+            stop("[" + a + "]", p);
+            stop(a + " or " + b, p || q);
+            stop(a + " and " + b, p && q);
+            stop(a + " or " + b + " or " + d, p || q || r);
+            stop(a + " and " + b + " and " + d, p && q && r);
+            stop(a + " or " + b + " and " + d, p || q && r);
+            stop(a + " and " + b + " or " + d, p && q || r);
+            stop("[" + a + " or " + b + "] and " + d, (p || q) && r);
+            stop(a + " and [" + b + " or " + d + "]", p && (q || r));
+            stop("not " + a + " and " + b + " or not " + d, !p && q || !r);
+            stop("not [" + a + " and " + b + "] or " + d, !(p && q) || r);
+            stop("not [" + a + " or not " + b + "] and not " + d, !(p || !q) && !r);
+            stop("not not [not " + a + " or " + b + "] and [[" + d + "]]", (!p || q) && r);
+        }
+        for (int left = 0; left <= 4; left++) {
+            for (int right = 0; right <= 4; right++) {
+                stop(left + "-2<" + right + "-2", left < right);
+                stop(left + "-2>" + right + "-2", left > right);
+                stop(left + "-2=" + right + "-2", left == right);
+            }
+        }
+        stop("9999>9998", true);
+        stop("9999<9999", false);
+        stop("0-9999-9999<0-9999", true);
+    }
+
+    private static void sum(String sum, int due) {
+        stop(due < 0 ? sum + "+" + -due + "=0" : sum + "=" + due, true);
+        stop(due < 0 ? "0-" + -due + "=" + sum : due + "=" + sum, true);
+        stop(due < 0 ? sum + "+1+" + -due + ">0" : sum + "+1>" + due, true);
+        stop(due < 0 ? sum + "+" + -due + "<0" : sum + "<" + due, false);
+        stop(due < 0 ? sum + "+" + -due + ">0" : sum + ">" + due, false);
+    }
+
+    /** E: U { + or - U } from the left; what stands in ( ) goes first. */
+    private static void sums() {
+        int[][] numbers = {{9, 5, 3, 2}, {1, 20, 300, 4000}, {4000, 300, 20, 1}, {0, 7, 0, 7}, {13, 13, 1, 0}};
+        for (int[] n : numbers) {
+            int i = n[0];
+            int j = n[1];
+            int k = n[2];
+            int l = n[3];
+            sum(i + "-" + j + "-" + k, i - j - k);
+            sum(i + "-" + j + "+" + k, i - j + k);
+            sum("(" + i + "-" + j + ")", i - j);
+            sum("((" + i + "-" + j + ")-" + k + ")-" + l, i - j - k - l);
+            sum("(" + i + "-" + j + ")-(" + k + "-" + l + ")", i - j - (k - l));
+            sum(i + "-(" + j + "-" + k + ")-(" + l + "-" + i + ")", i - (j - k) - (l - i));
+            sum(i + "-(" + j + "-(" + k + "-" + l + "))", i - (j - (k - l)));
+            sum(i + "-(" + j + "+(" + k + "-" + l + ")-" + i + ")-" + k, i - (j + (k - l) - i) - k);
+            sum(i + "+(" + j + "-(" + k + "+" + l + ")+" + k + ")+" + l, i + (j - (k + l) + k) + l);
+            sum("((((((" + i + "))))))-((((((" + j + "-" + k + "))))))", i - (j - k));
+            sum("(" + i + "-(" + j + "))-(" + k + "-(" + l + "-(" + i + "-" + j + ")))", i - j - (k - (l - (i - j))));
+            sum("x 0-(y 0-(" + i + "))", 3 - (4 - i));
+            sum("(y 0)-(x 0-" + j + "-(y 0))", 4 - (3 - j - 4));
         }
     }
 

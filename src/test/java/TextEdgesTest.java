@@ -16,6 +16,7 @@ public final class TextEdgesTest {
     public static void main(String[] args) {
         tapeIsFull();
         firstBytesOfTheTape();
+        bytesBehindTheText();
         highestByteFirst();
         everyByte();
         longestText();
@@ -80,6 +81,30 @@ public final class TextEdgesTest {
         c.same("all of it still stands there", bars.board(40), 0);
         c.same("all its joints", bars.told(0), 5);
         c.same("the last one", bars.joint(4, 1), 9);
+    }
+
+    /** What stands on the tape behind the n bytes is not of the text, be it of this one or of an earlier one. */
+    private static void bytesBehindTheText() {
+        String[] texts = {"pin|s 0 0;", "pin 0 19|9;", "pin 0 20|0;", "pin 0 0|;", "pin 0 0;pin|pin 0 0;", "pin 0 0;stop 1=1 or|d 1=1;",
+            "pin 0 0;stop x|x 0=1;", "pin 0 0;stop not|e 0=1;", "pin 0 0;stop [1=1|];", "pin 0 0;stop 1|0=1;"};
+        for (String text : texts) {
+            int n = text.indexOf('|');
+            DrawingBars cut = new DrawingBars();
+            Checks.feed(cut, text.replace("|", ""));
+            c.same("cut " + text, cut.board(n), -9);
+            c.same("at its length " + text, cut.fault(), n);
+        }
+        DrawingBars earlier = new DrawingBars();
+        Checks.feed(earlier, "z9".repeat(300));
+        c.same("a long text", earlier.board(600), -9);
+        String[] ends = {"            pin 1 19", "                 pin", "  pin 0 0;stop 1=1 or", "pin 0 0;stop not x 0", "pin 0 0;stop 1=1;pin"};
+        for (String end : ends) {
+            String text = end.substring(end.length() - 20);
+            c.same("ahead of old bytes '" + text + "'", Checks.read(earlier, text), -9);
+            c.same("at its length", earlier.fault(), 20);
+        }
+        c.same("sound ahead of old bytes", Checks.read(earlier, "            pin 1 1;"), 0);
+        c.same("one named by a digit at the end", Checks.read(earlier, "pin 0 0;   pencil 1;"), -6);
     }
 
     /** Promise 2: of each number the highest byte first. */
