@@ -1,4 +1,5 @@
 import java.math.BigInteger;
+import java.util.ArrayList;
 import java.util.List;
 
 /** The edges of a board's text: its length, clauses, numbers, words, blanks, what is open, and where which fault is. */
@@ -12,6 +13,11 @@ public final class TextEdgesTest {
     private static final String STOP = "pin 0 0;stop ";
     private static final String WHOLE_FACE = "pin 12 3;wheel 0 5;arm 0 9 1 8 1;slot 0 9 1 7 1;copy 0 1 2;along 0 1 3;"
             + "bar 0 1 9;pencil 2;stop not [x 0+1-(y 1)<3 and 2=2] or 1>0;";
+    /** Each place at which a joint is named, in a clause that tells a joint and in one that tells none. */
+    private static final String[] NAMED_BY_JOINTS = {"wheel # 5;", "arm # 1 0 1 0;", "arm 0 1 # 1 0;", "slot # 1 0 1 0;",
+        "copy # 0 0;", "copy 0 # 0;", "copy 0 0 #;", "along # 0 1;", "along 0 # 1;"};
+    private static final String[] NAMED_BY_OTHERS = {"bar # 0 1;", "bar 0 # 1;", "pencil #;", "stop x #=1;", "stop y #=1;",
+        "stop 1=1 or 2<x #;", "stop not [1-(y #)>1];"};
 
     public static void main(String[] args) {
         tapeIsFull();
@@ -34,6 +40,7 @@ public final class TextEdgesTest {
         openRightOfTheSign();
         openUntilItEnds();
         namedAndNotTold();
+        namedAheadOfOthers();
         noJoint();
         latestText();
         c.end();
@@ -494,10 +501,8 @@ public final class TextEdgesTest {
 
     /** Fault 4 at the length: one is named that is not told; the greatest told is no fault. */
     private static void namedAndNotTold() {
-        String[] third = {"wheel # 5;", "arm # 1 0 1 0;", "arm 0 1 # 1 0;", "slot # 1 0 1 0;", "copy # 0 0;", "copy 0 # 0;",
-            "copy 0 0 #;", "along # 0 1;", "along 0 # 1;"};
-        String[] none = {"bar # 0 1;", "bar 0 # 1;", "pencil #;", "stop x #=1;", "stop y #=1;", "stop 1=1 or 2<x #;",
-            "stop not [1-(y #)>1];"};
+        String[] third = NAMED_BY_JOINTS;
+        String[] none = NAMED_BY_OTHERS;
         for (int i = 0; i < third.length + none.length; i++) {
             String clause = i < third.length ? third[i] : none[i - third.length];
             int told = i < third.length ? 3 : 2;
@@ -514,6 +519,28 @@ public final class TextEdgesTest {
             c.fine(clause.replace("#", "15") + PIN.repeat(18 - told));
             c.fault(clause.replace("#", "15") + PIN.repeat(17 - told), 4, clause.length() + 1 + 7 * (17 - told));
         }
+    }
+
+    /** One that is not told stays named, whatever is named behind it, ahead of it or beside it. */
+    private static void namedAheadOfOthers() {
+        List<String> clauses = new ArrayList<>(List.of(NAMED_BY_JOINTS));
+        clauses.addAll(List.of(NAMED_BY_OTHERS));
+        for (String missing : clauses) {
+            for (String other : clauses) {
+                boolean twice = missing.equals(other) && (missing.startsWith("wheel") || missing.startsWith("pencil"));
+                if (!twice) {
+                    String told = other.replace("#", "1");
+                    String pair = missing.replace("#", "9") + told;
+                    String back = told + missing.replace("#", "15");
+                    c.fault("pin 0 0;pin 1 1;" + pair, 4, 16 + pair.length());
+                    c.fault("pin 0 0;pin 1 1;" + back, 4, 16 + back.length());
+                    c.fine("pin 0 0;pin 1 1;" + missing.replace("#", "1") + told);
+                }
+            }
+        }
+        c.fault("pin 0 0;stop x 1=x 0;", 4, 21);
+        c.fault("pin 0 0;stop x 0=x 1;", 4, 21);
+        c.fault("pin 0 0;stop y 1+y 0-x 0<y 0 or x 0=0 and y 0=0;", 4, 48);
     }
 
     /** Fault 4 at the length: there is no joint. */
